@@ -1138,6 +1138,7 @@ public final class ReceiptLeft {
             }
         }
 
+        /** All but the stations: nobody asks a trial where its THINGS were. */
         void copyFrom(World other) {
             day = other.day;
             papers = other.papers;
@@ -1150,7 +1151,6 @@ public final class ReceiptLeft {
             System.arraycopy(other.holder, 0, holder, 0, PAPERS);
             System.arraycopy(other.dueDay, 0, dueDay, 0, PAPERS);
             System.arraycopy(other.how, 0, how, 0, PAPERS);
-            System.arraycopy(other.stations, 0, stations, 0, THINGS * STATIONS);
         }
 
         int act(int kind, int a, int b, int c) {

@@ -325,6 +325,11 @@ public final class ActsTest {
         T.due("now(0)", x.now(0), 1);
         T.due("now(1) behind a night", x.now(1), 0b100);
         T.due("now(2)", x.now(2), 1);
+        x.anew();
+        x.steal(1, 0, 1);
+        x.steal(0, 0, 9);
+        x.night();
+        T.due("now(2), the first paper", x.now(2), 1);
         T.due("now(4)", x.now(4), -2);
         T.due("now(-1)", x.now(-1), -2);
         ReceiptLeft y = new ReceiptLeft();

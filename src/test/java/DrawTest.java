@@ -6,6 +6,7 @@ public final class DrawTest {
 
     public static void main(String[] args) {
         oneNight();
+        fromZero();
         severalNights();
         without();
         lucky();
@@ -36,6 +37,18 @@ public final class DrawTest {
         }
         T.due("drawn(1, 1, 1), there are 24", y.drawn(1, 1, 1), 24);
         T.due("luck(1, 1, 1, 1, 1), there are 24", y.luck(1, 1, 1, 1, 1), 1);
+    }
+
+    private static void fromZero() {
+        // from 0 they are 0, 21468, 9988, 22117, 3498, 16927, ..
+        ReceiptLeft x = Checks.told("city eats 0 carry 1 odds 18;" + BODY);
+        // 0: 0 is below 18, THING 21468 % 2 = 0, its own; 1: 88 is not; 2: 17 is, THING 3498 % 2 = 0
+        T.due("drawn(0, 1, 1)", x.drawn(0, 1, 1), 1);
+        T.due("luck(0, 1, 1, 0, 2)", x.luck(0, 1, 1, 0, 2), 1);
+        T.due("luck(0, 1, 1, 1, 1)", x.luck(0, 1, 1, 1, 1), 1);
+        // from 1: 38, 58, 13: the third, THING 17515 % 2 = 1
+        T.due("luck(0, 2, 1, 1, 2)", x.luck(0, 2, 1, 1, 2), 1);
+        T.due("drawn(0, 1, 2) of one house", Checks.told("city eats 0 carry 1 odds 9;house purse 7;").drawn(0, 1, 2), 7);
     }
 
     private static void severalNights() {

@@ -85,6 +85,14 @@ public final class DueTest {
         z.night();
         z.night();
         T.due("needs(1), it has failed already", z.needs(1), 0);
+        ReceiptLeft w = Checks.told(TEXT);
+        w.steal(1, 0, 60);
+        w.steal(2, 0, 60);
+        T.due("needs(1) in sixty nights", w.needs(1), 40);
+        w.anew();
+        w.steal(1, 0, 1);
+        w.steal(2, 0, 60);
+        T.due("needs(1) tomorrow", w.needs(1), 40);
     }
 
     private static void needsOfOwnPapers() {
@@ -169,6 +177,14 @@ public final class DueTest {
         y.steal(0, 1, 9);
         T.due("hits(0), the least of several", y.hits(0), 1);
         T.due("hits(1)", y.hits(1), -1);
+        y.steal(2, 0, 9);
+        T.due("hits(2), the first house", y.hits(2), 0);
+        T.due("hit(2), the first house", y.hit(2), 4);
+        y.anew();
+        y.rate(0, 1);
+        y.steal(0, 0, 9);
+        T.due("hit(0) of 1", y.hit(0), 1);
+        T.due("hits(0) of 1", y.hits(0), 2);
     }
 
     private static void noSuch() {

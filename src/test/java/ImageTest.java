@@ -89,11 +89,16 @@ public final class ImageTest {
         T.due("lock of 1", x.house(1, 1), 1);
         T.due("papers of 1", x.count(5), 2);
         T.due("back(2)", x.back(2), 0);
+        x.lock(2, 1);
+        x.steal(1, 0, 9);
+        T.due("back(2) behind other acts", x.back(2), 0);
         T.due("worth of 2", x.thing(0, 0), 77);
         T.due("want of 2", x.value(0, 1), 39);
         T.due("acts of 2", x.count(6), 0);
         T.due("back(0) once more", x.back(0), 0);
         T.due("acts of 0 once more", x.count(6), 2);
+        T.due("thief of 0 once more", x.paper(0, 0), 2);
+        T.due("lock of 0 once more", x.house(2, 1), 0);
         Checks.put(x, "city eats 0 carry 1 odds 0;");
         x.city();
         x.feed(0, 0, 0, 0, 0);

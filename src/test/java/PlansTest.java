@@ -28,6 +28,9 @@ public final class PlansTest {
         T.due("plans(0, 4, -1)", x.plans(0, 4, -1), -1);
         T.due("plan(1, 4), wanted nothing", x.plan(1, 4), 0);
         T.due("plans(1, 4, 0)", x.plans(1, 4, 0), -1);
+        x.want(1, 5, 1);
+        T.due("plan(1, 4), wanted 1 more", x.plan(1, 4), 1);
+        T.due("plans(1, 4, 0), wanted 1 more", x.plans(1, 4, 0), 5);
         int net = x.net(0);
         x.steal(0, 2, 9);
         T.due("the net is so much more", x.net(0) - net, 50);
@@ -59,6 +62,10 @@ public final class PlansTest {
         x.want(0, 3, 5);
         x.steal(0, 3, 9);
         T.due("change(0, 1), it has it already", x.change(0, 1), -1);
+        ReceiptLeft y = Checks.told("city eats 0 carry 1 odds 0;house purse 0;house purse 0;"
+            + "thing at 0 worth 10;thing at 1 worth 10;want 1 0 1;want 0 1 1;");
+        T.due("change(0, 1) of 0 for 1", y.change(0, 1), 1);
+        T.due("change(1, 0) of 1 for 0", y.change(1, 0), 10);
         T.due("change(0, 0)", x.change(0, 0), -2);
         T.due("change(0, 2)", x.change(0, 2), -2);
         T.due("change(2, 0)", x.change(2, 0), -2);
@@ -87,6 +94,7 @@ public final class PlansTest {
         ReceiptLeft z = Checks.told("city eats 0 carry 1 odds 0;house purse 0;house purse 0;house purse 0;"
             + "thing at 0 worth 1;thing at 0 worth 2;want 0 0 3;want 0 1 4;want 2 0 1;want 2 1 1;");
         // 0: 4, 1, 2; 1: 6, 2, 3: 4 + 3 = 7, 2 + 6 = 8
+        T.due("deals(1) asked first", z.deals(1), 0);
         T.due("deal() of more houses", z.deal(), 8);
         T.due("deals(0) of more houses", z.deals(0), 2);
         T.due("deals(1) of more houses", z.deals(1), 0);
@@ -113,6 +121,11 @@ public final class PlansTest {
         T.due("dear()", x.dear(), 8);
         x.steal(0, 2, 9);
         T.due("dear() behind a theft", x.dear(), 3);
+        x.undo();
+        x.want(0, 0, 2);
+        T.due("dear() by the first house", x.dear(), 2);
+        x.want(0, 0, 8);
+        x.steal(0, 2, 9);
         x.steal(0, 1, 9);
         T.due("dear(), one without things", x.dear(), 0);
         T.due("rests(0), one without things", x.rests(0), 2);

@@ -79,13 +79,22 @@ public final class TextTest {
         Checks.put(x, HEAD + HOUSE + THING + "want 0 0 5;want 0 0 9;");
         T.due("city, wanted again", x.city(), 5);
         T.due("the later want", x.value(0, 0), 10);
-        x.steal(0, 0, 1);
+        x.lock(0, 0);
         T.due("city of nothing", x.city(), 0);
-        T.due("then it is none", x.count(3), 0);
+        for (int what = 0; what < 10; what++) {
+            T.due("then count(" + what + ")", x.count(what), 0);
+        }
         T.due("then no value", x.value(0, 0), -2);
+        T.due("then no thing", x.thing(0, 0), -2);
         Checks.put(x, HEAD + HOUSE + THING);
         x.city();
         T.due("an earlier want is gone", x.value(0, 0), 1);
+        Checks.put(x, HEAD + "house purse 0 locked;");
+        x.city();
+        T.due("an earlier thing is gone", x.count(4), 0);
+        Checks.put(x, HEAD + HOUSE);
+        x.city();
+        T.due("an earlier lock is gone", x.house(0, 1), 0);
     }
 
     private static void keeps() {
@@ -103,6 +112,7 @@ public final class TextTest {
         Checks.put(x, HEAD + HOUSE);
         T.due("a sound one in its place", x.city(), 2);
         T.due("no fault then", x.fault(0), 0);
+        T.due("no place then", x.fault(1), -1);
         T.due("nothing done", x.count(6), 0);
         T.due("no papers", x.count(5), 0);
     }
@@ -123,6 +133,13 @@ public final class TextTest {
         fault("7", 1, 0);
         fault("City", 1, 0);
         fault("citys eats", 1, 0);
+        fault("cityz eats 1", 1, 0);
+        fault("acity eats 1", 1, 0);
+        fault("bity eats 10 carry 2 odds 50;", 1, 0);
+        fault("city`eats 10 carry 2 odds 50;", 1, 4);
+        fault("city{eats 10 carry 2 odds 50;", 1, 4);
+        fault("city eats 10/carry 2 odds 50;", 1, 12);
+        fault("city eats 10:carry 2 odds 50;", 1, 12);
         fault("cit", 1, 0);
         fault("city", 1, 4);
         fault("city  \n", 1, 7);

@@ -131,6 +131,15 @@ public final class TitlesTest {
         // now 1's lead to 2, 2, 3, a ring each: two can be kept, and of 1 and 4, 2 and 3, .. the first is the greatest
         T.due("strikes(), all ring", x.strikes(), 3);
         T.due("struck(), all ring", x.struck(), 0b01101);
+        ReceiptLeft alone = Checks.told("city eats 0 carry 1 odds 0;house purse 0;house purse 0;house purse 0;thing at 2 worth 9;");
+        T.due("trail(0, 0), told so", alone.trail(0, 0), 2);
+        alone.steal(1, 0, 9);
+        alone.steal(0, 0, 9);
+        T.due("strikes() of one thing", alone.strikes(), 0);
+        alone.steal(1, 0, 9);
+        // 0 and 2 are twice; 1 and 2 ring
+        T.due("strikes() of one thing, two thefts more", alone.strikes(), 1);
+        T.due("struck() of one thing", alone.struck(), 0b100);
         ReceiptLeft y = Checks.told(FIVE);
         T.due("strikes() of nothing", y.strikes(), 0);
         T.due("struck() of nothing", y.struck(), 0);
@@ -191,6 +200,9 @@ public final class TitlesTest {
         T.due("poorest(), the first of several", x.poorest(), 1);
         x.rate(0, 10);
         T.due("poorest()", x.poorest(), 2);
+        x.rate(0, 999);
+        x.rate(1, 999);
+        T.due("poorest(), the first", x.poorest(), 0);
         T.due("poorest() of none", Checks.told("city eats 0 carry 1 odds 0;").poorest(), -1);
         // below nothing
         ReceiptLeft y = Checks.told("city eats 0 carry 1 odds 0;house purse 0;house purse 0;house purse 0;thing at 2 worth 9;");
