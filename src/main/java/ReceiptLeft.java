@@ -397,27 +397,12 @@ public final class ReceiptLeft {
         if (!isHouse(house)) {
             return UNKNOWN;
         }
-        int most = 0;
-        for (int other = 0; other < city.houses; other++) {
-            most = Math.max(most, world.owedTo(other, house));
-        }
-        return most;
+        int other = hardestHitBy(house);
+        return other == NONE ? 0 : world.owedTo(other, house);
     }
 
     public int hits(int house) {
-        if (!isHouse(house)) {
-            return UNKNOWN;
-        }
-        int most = 0;
-        int which = NONE;
-        for (int other = 0; other < city.houses; other++) {
-            int owed = world.owedTo(other, house);
-            if (owed > most) {
-                most = owed;
-                which = other;
-            }
-        }
-        return which;
+        return isHouse(house) ? hardestHitBy(house) : UNKNOWN;
     }
 
     // ---- what to do ----
@@ -722,6 +707,19 @@ public final class ReceiptLeft {
             failed |= trial.passNight();
         }
         return failed;
+    }
+
+    private int hardestHitBy(int house) {
+        int most = 0;
+        int which = NONE;
+        for (int other = 0; other < city.houses; other++) {
+            int owed = world.owedTo(other, house);
+            if (owed > most) {
+                most = owed;
+                which = other;
+            }
+        }
+        return which;
     }
 
     /** A theft adds VALUE and owes the worth, so NET grows by what the HOUSE wants the THING more. */
@@ -1106,7 +1104,7 @@ public final class ReceiptLeft {
         // Above all that a HOUSE may ever have to pay, so that it never falls short.
         static final int PLENTY = 1000000;
 
-        private final City city;
+        final City city;
         int day;
         int papers;
         int locked;
@@ -1659,11 +1657,11 @@ public final class ReceiptLeft {
             int free = world.openPapers();
             for (int i = 0; i + FIELDS <= row.length; i += FIELDS) {
                 int alike = alike(row, i, world);
-                int paper = (int) row.numbers[i + 1];
-                boolean rightWorth = row.numbers[i + 2] == world.city.worth[paper];
+                int thing = (int) row.numbers[i + 1];
+                boolean rightWorth = row.numbers[i + 2] == world.city.worth[thing];
                 int fit = rightWorth ? alike & free : 0;
                 if (fit != 0) {
-                    free &= ~Integer.lowestOneBit(fit);
+                    free &= ~(fit & -fit);
                 } else {
                     first = wrong == 0 ? i / FIELDS : first;
                     wrong++;
