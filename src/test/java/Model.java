@@ -212,7 +212,7 @@ final class Model {
                 kind = token.equals(";") ? 0 : kind;
             } else if (number && Character.isUpperCase(f[line.size()].charAt(0))) {
                 kind = within(to, f[line.size()].charAt(0), token) ? 0 : 2;
-            } else if (token.equals(f[line.size()])) {
+            } else if (token.equals(f[line.size()]) && Character.isLowerCase(token.charAt(0))) {
                 boolean full = line.isEmpty() && (token.equals("house") && to.purses.size() == 5 || token.equals("thing") && to.at.size() == 6);
                 kind = full ? 3 : 0;
             }
