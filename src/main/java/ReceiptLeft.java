@@ -90,12 +90,10 @@ public final class ReceiptLeft {
     }
 
     public int city() {
-        boolean sound = tape.read(draft);
-        // The TAPE is used up by a FAULT too: what stays then is the CITY and all done in it.
-        tape.length = 0;
-        if (!sound) {
+        if (!tape.read(draft)) {
             return FAULTY;
         }
+        tape.length = 0;
         city.copyFrom(draft);
         acts.count = 0;
         world.begin();

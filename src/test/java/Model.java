@@ -161,7 +161,6 @@ final class Model {
     /** A text is right as far as some LINE's form goes on by its next TOKEN. */
     int city() {
         String text = tape;
-        tape = "";
         faultKind = 0;
         faultPlace = -1;
         Town to = new Town();
@@ -187,6 +186,7 @@ final class Model {
             faultPlace = text.length();
             return -4;
         }
+        tape = "";
         town = to;
         now = to.start();
         before.clear();

@@ -118,6 +118,9 @@ public final class ModelTest {
         due("fault(0)", x.fault(0), m.fault(0));
         due("fault(1)", x.fault(1), m.fault(1));
         due("count(8)", x.count(8), m.count(8));
+        if (random.nextInt(8) != 0) {
+            due("end(0)", x.end(0), m.end(0));
+        }
     }
 
     private void call() {

@@ -109,12 +109,21 @@ public final class TextTest {
         T.due("places stay", x.thing(0, 1), 1);
         T.due("its fault", x.fault(0), 1);
         T.due("its place", x.fault(1), HEAD.length() + HOUSE.length() + 12);
+        T.due("the TAPE stays", x.count(8), HEAD.length() + HOUSE.length() + 14);
+        T.due("a city with the same fault", x.city(), -4);
+        T.due("end(0)", x.end(0), 0);
         Checks.put(x, HEAD + HOUSE);
         T.due("a sound one in its place", x.city(), 2);
+        T.due("no TAPE then", x.count(8), 0);
         T.due("no fault then", x.fault(0), 0);
         T.due("no place then", x.fault(1), -1);
         T.due("nothing done", x.count(6), 0);
         T.due("no papers", x.count(5), 0);
+        Checks.put(x, HEAD + "house purse");
+        T.due("a text that ends too early", x.city(), -4);
+        Checks.put(x, " 8;");
+        T.due("and goes on", x.city(), 2);
+        T.due("its purse", x.house(0, 0), 8);
     }
 
     private static void fault(String text, int kind, int place) {
