@@ -13,6 +13,8 @@ public final class BoundsDrawTest {
         drawsWithoutThings();
         oddsOfNoneAndAll();
         oddsJustBelow();
+        drawsOfOneThing();
+        drawsInTurn();
         drawsWrapAround();
         drawnIfItMay();
         drawnToBeReturnedIn7();
@@ -92,6 +94,43 @@ public final class BoundsDrawTest {
             int draw = draws(seed, 1)[0] % 100;
             T.due("odds of the draw, seed " + seed, Checks.told("city eats 0 carry 1 odds " + draw + body).drawn(seed, 1, 1), 0);
             T.due("odds of one more, seed " + seed, Checks.told("city eats 0 carry 1 odds " + (draw + 1) + body).drawn(seed, 1, 1), 1);
+        }
+    }
+
+    private static void drawsOfOneThing() {
+        // VI: a draw of all THINGS, also of one, and also if it may not steal it. HOUSE 1 alone may, and draws behind HOUSE 0
+        ReceiptLeft x = Checks.told("city eats 0 carry 1 odds 50;house purse 0;house purse 0;thing at 0 worth 9;");
+        for (int seed = 0; seed < 200; seed++) {
+            int[] drawn = draws(seed, 3);
+            int behind = drawn[0] % 100 < 50 ? 2 : 1;
+            T.due("one THING, seed " + seed, x.drawn(seed, 1, 1), drawn[behind] % 100 < 50 ? 1 : 0);
+        }
+    }
+
+    private static void drawsInTurn() {
+        // VI: for each HOUSE (by numbers), NIGHT by NIGHT, one draw behind the other
+        String text = "city eats 0 carry 1 odds 30;house purse 0;house purse 0;house purse 0 locked;house purse 0;"
+            + "thing at 0 worth 9;thing at 1 worth 9;thing at 3 worth 9;";
+        for (int seed = 0; seed < 200; seed++) {
+            ReceiptLeft x = Checks.told(text);
+            int[] drawn = draws(seed, 40);
+            int next = 0;
+            int[] at = {0, 1, 3};
+            int papers = 0;
+            for (int n = 1; n <= 5; n++) {
+                for (int house = 0; house < 4; house++) {
+                    if (drawn[next++] % 100 < 30) {
+                        int thing = drawn[next++] % 3;
+                        boolean may = at[thing] != house && at[thing] != 2;
+                        papers += may ? 1 : 0;
+                        at[thing] = may ? house : at[thing];
+                    }
+                }
+                T.due("drawn(" + seed + ", " + n + ", 1)", x.drawn(seed, n, 1), papers);
+                for (int thing = 0; thing < 3; thing++) {
+                    T.due("THING " + thing + " of seed " + seed + " behind " + n, x.luck(seed, 1, n, thing, at[thing]), 1);
+                }
+            }
         }
     }
 

@@ -157,6 +157,20 @@ public final class BoundsPlansTest {
         x.lock(1, 0);
         x.steal(2, 0, 9);
         T.due("where they are now", x.change(0, 1), -1);
+        T.due("and for whom it is there", x.change(2, 1), -1);
+        // each wants what the other one has, and less than nothing is gained by what a third one has
+        ReceiptLeft y = Checks.told(HEAD + "house purse 0;".repeat(3) + "thing at 0 worth 9;thing at 1 worth 9;thing at 2 worth 9;"
+            + "want 0 1 5;want 1 0 5;want 0 2 5;want 2 0 4;want 1 2 1;want 2 1 9;");
+        int[][] due = {{-2, 1, 2}, {10, -2, 12}, {20, 21, -2}};
+        for (int house = 0; house < 3; house++) {
+            for (int other = 0; other < 3; other++) {
+                T.due("change(" + house + ", " + other + ") of three", y.change(house, other), due[house][other]);
+            }
+        }
+        y.want(0, 1, 0);
+        y.rate(1, 8);
+        T.due("less for the one", y.change(0, 1), -1);
+        T.due("less for the other", y.change(1, 0), -1);
     }
 
     private static void changeTheLeast() {
@@ -189,6 +203,10 @@ public final class BoundsPlansTest {
         ReceiptLeft y = Checks.told(HEAD + "house purse 0;".repeat(5) + "thing at 0 worth 9;want 4 0 1;");
         T.due("five HOUSES, one THING", y.deal(), 10);
         T.due("to the last HOUSE", y.deals(0), 4);
+        Bounds.tell(x, HEAD + "house purse 0;thing at 0 worth 1;");
+        T.due("what was asked of another CITY is no matter", x.deal(), 1);
+        Bounds.tell(x, HEAD + "house purse 0;");
+        T.due("nor of one with THINGS", x.deal(), 0);
         y.lock(4, 1);
         y.steal(2, 0, 9);
         T.due("locks and where it is are no matter", y.deal(), 10);
@@ -327,6 +345,8 @@ public final class BoundsPlansTest {
         T.due("all are at REST by it", x.rest(3), 0b01);
         T.due("by it either", x.rests(3), 2);
         T.due("by one more not all are", x.rests(4), 1);
+        x.want(0, 0, 2);
+        T.due("by the first", x.dear(), 2);
         x.want(1, 1, 0);
         T.due("one that would lose nothing", x.dear(), 0);
     }

@@ -495,6 +495,10 @@ public final class BoundsRowsTest {
             x.write(0, field, new int[] {3, 2, 31, 4}[field]);
             T.due("number " + field + " is another's", x.wrong(0), 1);
             T.due("it is argued by its worth alone, " + field, x.argued(0), field == 2 ? 1 : 0);
+            put(x, 0, 1, 2, 0, 40, 60);
+            x.write(0, field, new int[] {1, 5, 39, 59}[field]);
+            T.due("number " + field + " is that of one ahead", x.wrong(0), 1);
+            T.due("that is argued by its worth alone, " + field, x.argued(0), field == 2 ? 1 : 0);
         }
     }
 

@@ -26,6 +26,7 @@ public final class BoundsTextTest {
         wordsOfLettersAlone();
         numbersOfDigitsAlone();
         theLongestToken();
+        everyLetterOfAWord();
         longNumbers();
         sixthHouse();
         seventhThing();
@@ -277,6 +278,24 @@ public final class BoundsTextTest {
         faulty("city eats 1 carry 1 odds 1;housepurse 0;", 1, 27);
         faulty("city eats 1 0 carry 1 odds 1;", 1, 12);
         faulty(HEAD + HOUSE + THING + "want 00 0;", 1, H + 33 + 9);
+    }
+
+    private static void everyLetterOfAWord() {
+        // I: a word that is another one by a letter, or shorter or longer by one, can't stand there
+        String text = "city eats 1 carry 1 odds 1;house purse 1 locked;thing at 0 worth 1;want 0 0 1;";
+        sound(text, 4);
+        int word = 0;
+        for (int i = 0; i < text.length(); i++) {
+            char c = text.charAt(i);
+            if (c < 'a' || c > 'z') {
+                word = i + 1;
+                continue;
+            }
+            faulty(text.substring(0, i) + "q" + text.substring(i + 1), 1, word);
+            faulty(text.substring(0, i) + (char) (c - 32) + text.substring(i + 1), 1, word);
+            faulty(text.substring(0, i) + text.substring(i + 1), 1, word);
+            faulty(text.substring(0, i) + c + text.substring(i), 1, word);
+        }
     }
 
     private static void longNumbers() {

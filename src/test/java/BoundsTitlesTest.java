@@ -10,9 +10,12 @@ public final class BoundsTitlesTest {
         chainOfOneToFive();
         ringsOfTwoToFive();
         ringOfATail();
+        ringOfTheLastTwo();
         ringsOfAll();
         chainByTheLatest();
         chainWithoutClosedOnes();
+        chainWithoutThoseTakenBack();
+        chainOf24();
         chainWithoutHisOwn();
         ownsOfNoneSuch();
         ownsNoneOrAll();
@@ -21,6 +24,7 @@ public final class BoundsTitlesTest {
         strikesOfNone();
         strikesOfAllButOne();
         strikesTheLeastSet();
+        strikesTheFewestFirst();
         strikesOfRingsAside();
         trailOfNoneSuch();
         trailOfMost();
@@ -110,6 +114,19 @@ public final class BoundsTitlesTest {
         T.due("rings() of a tail and a RING", x.rings(), 1);
     }
 
+    private static void ringOfTheLastTwo() {
+        // III: a RING by which HOUSE 0 does not come
+        ReceiptLeft x = Bounds.made(BoundsTitlesTest::five);
+        x.steal(3, 0, 60);
+        x.steal(4, 0, 60);
+        x.steal(3, 0, 60);
+        T.due("chain(0, 0)", x.chain(0, 0), 3);
+        T.due("chain(0, 1)", x.chain(0, 1), 4);
+        T.due("chain(0, 2)", x.chain(0, 2), -1);
+        T.due("owner(0)", x.owner(0), -1);
+        T.due("rings()", x.rings(), 1);
+    }
+
     private static void ringsOfAll() {
         // 23: THINGS whose CHAINS are RINGS, as bits: none, the last, all
         ReceiptLeft x = Bounds.made(BoundsTitlesTest::five);
@@ -148,6 +165,33 @@ public final class BoundsTitlesTest {
         T.due("2 was paid for the sale: PAID", x.paper(1, 4), 2);
         T.due("behind the NIGHT: 3, 1", x.owner(0), 1);
         T.due("chain(0, 2)", x.chain(0, 2), -1);
+    }
+
+    private static void chainWithoutThoseTakenBack() {
+        // III, 18: a PAPER that was taken back is none
+        ReceiptLeft x = Bounds.made(BoundsTitlesTest::five);
+        x.steal(1, 0, 60);
+        x.steal(2, 0, 60);
+        x.steal(1, 0, 60);
+        T.due("with it a RING", x.rings(), 1);
+        x.undo();
+        T.due("chain(0, 1)", x.chain(0, 1), 1);
+        T.due("chain(0, 2)", x.chain(0, 2), 0);
+        T.due("owner(0)", x.owner(0), 0);
+        T.due("twice()", x.twice(), 0);
+        T.due("strikes()", x.strikes(), 0);
+    }
+
+    private static void chainOf24() {
+        // III: by the last of 24 PAPERS
+        ReceiptLeft x = Bounds.made(Bounds::crowded);
+        T.due("chain(0, 0)", x.chain(0, 0), 0);
+        T.due("chain(0, 1)", x.chain(0, 1), 1);
+        T.due("chain(0, 2)", x.chain(0, 2), -1);
+        T.due("rings()", x.rings(), 1);
+        x.sell(23, 3);
+        T.due("owner(0), the last one sold", x.owner(0), 3);
+        T.due("owns(3)", x.owns(3), 0b001001);
     }
 
     private static void chainWithoutHisOwn() {
@@ -192,6 +236,12 @@ public final class BoundsTitlesTest {
         T.due("another THING is none", x.twice(), 6);
         x.strike(0);
         T.due("a closed one is none", x.twice(), 4);
+        ReceiptLeft y = Bounds.made(BoundsTitlesTest::five);
+        y.steal(1, 5, 60);
+        y.steal(1, 0, 60);
+        T.due("one THIEF, two THINGS", y.twice(), 0);
+        y.steal(2, 0, 60);
+        T.due("two THIEVES, one THING", y.twice(), 0);
     }
 
     private static void twiceHeldByOthers() {
@@ -246,6 +296,19 @@ public final class BoundsTitlesTest {
         T.due("struck() of one RING", x.struck(), 0b001);
     }
 
+    private static void strikesTheFewestFirst() {
+        // 26, 27: the fewest ahead of the least: the last one alone, though the two ahead of it are a lesser set
+        ReceiptLeft x = Bounds.made(BoundsTitlesTest::five);
+        x.steal(1, 0, 60);
+        x.steal(2, 0, 60);
+        x.steal(1, 0, 60);
+        // 0 and 2 are TWICE, 1 and 2 lead back
+        T.due("strikes()", x.strikes(), 1);
+        T.due("struck()", x.struck(), 0b100);
+        x.strike(2);
+        T.due("then all is CLEAN", x.strikes(), 0);
+    }
+
     private static void strikesOfRingsAside() {
         // III: CLEAN: no THING's OPEN PAPERS lead back to a HOUSE, though its CHAIN comes by none of them
         ReceiptLeft x = row(3, true);
@@ -262,6 +325,7 @@ public final class BoundsTitlesTest {
         B.edges("trail(n, 0)", Bounds::withPapers, (x, n) -> x.trail(n, 0), 0, 5, -2);
         B.edges("trail(0, n) of two", Bounds::withPapers, (x, n) -> x.trail(0, n), 0, 2, -1);
         B.edges("trail(5, n) of none", Bounds::withPapers, (x, n) -> x.trail(5, n), 0, 0, -1);
+        T.due("trail(0, 0) of one told elsewhere", Bounds.made(Bounds::hows).trail(0, 0), 1);
         B.stays("trail(6, 99): -2 is asked first", Bounds::withPapers, x -> x.trail(6, 99), -2);
     }
 

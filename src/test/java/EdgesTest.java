@@ -27,6 +27,13 @@ public final class EdgesTest {
         for (int run = 0; run < 400; run++) {
             oddRun(calls, random, run);
         }
+        Bounds.Doing[] states = {Bounds::nothing, Bounds::headAlone, Bounds::noThings, Bounds::full, Bounds::withPapers, Bounds::crowded,
+            Bounds::spent, Bounds::hows};
+        for (Method call : calls) {
+            for (Bounds.Doing state : states) {
+                allOf(call, Bounds.made(state));
+            }
+        }
         room();
         T.finish();
     }
@@ -44,6 +51,26 @@ public final class EdgesTest {
             boolean loses = call.getName().equals("city") || call.getName().equals("anew") || call.getName().equals("back");
             if (loses && random.nextInt(20) != 0) {
                 continue;
+            }
+            try {
+                call.invoke(x, with);
+            } catch (InvocationTargetException e) {
+                T.due(call + " threw " + e.getCause(), 1, 0);
+            }
+        }
+    }
+
+    /** A call with all that is least and greatest, each with each. */
+    private static void allOf(Method call, ReceiptLeft x) throws ReflectiveOperationException {
+        int[] ends = {Integer.MIN_VALUE, -1, 0, 1, 5, 60, Integer.MAX_VALUE};
+        Object[] with = new Object[call.getParameterCount()];
+        int ways = (int) Math.pow(ends.length, with.length);
+        for (int way = 0; way < ways; way++) {
+            int rest = way;
+            for (int j = 0; j < with.length; j++) {
+                int n = ends[rest % ends.length];
+                rest /= ends.length;
+                with[j] = call.getParameterTypes()[j] == long.class ? (Object) (n * 4294967297L) : (Object) n;
             }
             try {
                 call.invoke(x, with);
