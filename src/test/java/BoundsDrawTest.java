@@ -68,7 +68,8 @@ public final class BoundsDrawTest {
         // 53: 2: purse of HOUSE 0 then (NONE without)
         B.stays("drawn(5, 0, 2)", Bounds::headAlone, x -> x.drawn(5, 0, 2), -1);
         B.stays("drawn(5, 40, 2)", Bounds::headAlone, x -> x.drawn(5, 40, 2), -1);
-        B.stays("drawn(5, 40, 2) of a HOUSE", Bounds::noThings, x -> x.drawn(5, 40, 2), 5);
+        B.stays("drawn(5, 40, 2) of two HOUSES", Bounds::noThings, x -> x.drawn(5, 40, 2), 5);
+        B.stays("drawn(5, 40, 2) of one HOUSE", x -> Bounds.tell(x, Bounds.HEAD + "house purse 9999;"), x -> x.drawn(5, 40, 2), 9999);
     }
 
     private static void drawsWithoutThings() {

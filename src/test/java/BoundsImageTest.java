@@ -1,3 +1,5 @@
+import java.util.List;
+
 /** Boundary cases of promises 55 to 59: each sentence by a method of its own. */
 public final class BoundsImageTest {
     private static final Checks T = new Checks("BoundsImageTest");
@@ -24,7 +26,8 @@ public final class BoundsImageTest {
     }
 
     private static void same(String name, ReceiptLeft x, ReceiptLeft y) {
-        T.due(name + ": " + Whole.of(x), Whole.of(x).equals(Whole.of(y)) ? 1 : 0, 1);
+        List<String> got = Whole.of(x);
+        T.due(name + ": " + got, got.equals(Whole.of(y)) ? 1 : 0, 1);
     }
 
     private static void rateOfNoneSuch() {
@@ -191,6 +194,10 @@ public final class BoundsImageTest {
             T.due("image(2)", x.image(2), 0);
             T.due("anew()", x.anew(), acts);
             T.due("a rate in between", x.rate(0, 555) > 0 ? 1 : 0, 1);
+            for (int i = 0; i < 60; i++) {
+                x.night();
+            }
+            T.due("60 other acts in between", x.count(6), 60);
             T.due("back(2)", x.back(2), 0);
             T.due("acts", x.count(6), acts);
             same("as it was", x, Bounds.made(before));

@@ -36,6 +36,7 @@ public final class BoundsTextTest {
         feedUpTo800();
         feedTakesFourBytesEach();
         endCutsOnly();
+        endInsideAToken();
         cityEmptiesTheTape();
         cityInPlaceOfAnother();
         cityOfNothing();
@@ -417,6 +418,27 @@ public final class BoundsTextTest {
         ReceiptLeft full = Bounds.made(y -> Checks.put(y, " ".repeat(800)));
         T.due("end(801) of 800", full.end(801), -1);
         T.due("end(800) of 800", full.end(800), 800);
+    }
+
+    private static void endInsideAToken() {
+        // 3: what was cut is no part of a TOKEN, a number's or a word's
+        ReceiptLeft x = new ReceiptLeft();
+        Checks.put(x, "city eats 10 carry 2 odds 55;");
+        T.due("end inside the number", x.end(27), 27);
+        T.due("city", x.city(), -4);
+        T.due("the end's place", x.fault(1), 27);
+        Checks.put(x, ";");
+        T.due("city of it and a sign", x.city(), 1);
+        T.due("the number", x.count(2), 5);
+        Checks.put(x, HEAD + "house purse 0 lockedx;");
+        x.end(H + 20);
+        T.due("city, cut inside a word", x.city(), -4);
+        T.due("the end's place behind it", x.fault(1), H + 20);
+        Checks.put(x, ";");
+        T.due("city of it and its sign", x.city(), 2);
+        T.due("the word", x.house(0, 1), 1);
+        faulty(HEAD + "house purse " + "0".repeat(800 - H - 12), 1, 800);
+        faulty(HEAD + "house purse 0" + " ".repeat(800 - H - 19) + "locked", 1, 800);
     }
 
     private static void cityEmptiesTheTape() {

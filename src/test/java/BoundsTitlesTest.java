@@ -264,6 +264,10 @@ public final class BoundsTitlesTest {
         // 26, 27: none, if all is CLEAN
         T.due("strikes() of three", Bounds.made(Bounds::withPapers).strikes(), 0);
         T.due("struck() of three", Bounds.made(Bounds::withPapers).struck(), 0);
+        T.due("strikes() of one, HOUSE 0's", Bounds.made(x -> {
+            Bounds.full(x);
+            x.steal(0, 1, 9);
+        }).strikes(), 0);
         T.due("strikes() of closed ones", Bounds.made(Bounds::hows).strikes(), 0);
         T.due("struck() of closed ones", Bounds.made(Bounds::hows).struck(), 0);
     }
