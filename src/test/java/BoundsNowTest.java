@@ -271,5 +271,8 @@ public final class BoundsNowTest {
         z.undo();
         z.undo();
         T.due("none, taken back", z.now(2), 0);
+        ReceiptLeft w = Bounds.made(Bounds::hows);
+        T.due("of each kind one is OPEN", w.now(1), 0b10000);
+        T.due("of each kind one has FAILED", w.now(2), 1);
     }
 }

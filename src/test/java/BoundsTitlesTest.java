@@ -257,6 +257,12 @@ public final class BoundsTitlesTest {
         T.due("one is his own", x.twice(), 0);
         x.sell(2, 1);
         T.due("both are his own", x.twice(), 0);
+        x.sell(0, 3);
+        T.due("the later one is", x.twice(), 0);
+        x.sell(2, 3);
+        T.due("none is", x.twice(), 1);
+        x.strike(2);
+        T.due("the later one is STRUCK", x.twice(), 0);
         T.due("then all is CLEAN", x.strikes(), 0);
     }
 
