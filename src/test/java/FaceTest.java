@@ -28,6 +28,7 @@ public final class FaceTest {
         face();
         classes();
         source();
+        document();
         T.finish();
     }
 
@@ -111,5 +112,30 @@ public final class FaceTest {
                 T.due("a method of " + lines + " lines", lines <= 60 || line.startsWith("    }") ? 1 : 0, 1);
             }
         }
+    }
+
+    /** The document's own face is the one written out here, and each of its promises has a method in PromisesTest. */
+    private static void document() throws IOException {
+        Set<String> left = new TreeSet<>(Set.of(FACE));
+        Set<String> methods = new TreeSet<>();
+        for (Method method : PromisesTest.class.getDeclaredMethods()) {
+            methods.add(method.getName());
+        }
+        int promises = 0;
+        for (String line : Files.readAllLines(Path.of("../shared/DOC.md"))) {
+            Matcher m = Pattern.compile("    public int (\\w+)\\((.*)\\);").matcher(line);
+            if (m.matches()) {
+                String signature = m.group(1) + "(" + m.group(2).replaceAll("(int|long) \\w+", "$1").replace(", ", ",") + ")";
+                T.due(signature + " of the document is here", left.remove(signature) ? 1 : 0, 1);
+            }
+            m = Pattern.compile("## Promise (\\d+): .*").matcher(line);
+            if (m.matches()) {
+                promises++;
+                T.due("promise " + m.group(1) + " by its number", Integer.parseInt(m.group(1)), promises);
+                T.due("promise " + promises + " has its method", methods.contains("promise" + promises) ? 1 : 0, 1);
+            }
+        }
+        T.due("not in the document: " + left, left.size(), 0);
+        T.due("promises", promises, 62);
     }
 }
